@@ -46,6 +46,7 @@ public final class VotedUnseen {
     private final Told told = new Told();
     private final int[] tally = new int[MOST_PEOPLE];
     private final int[] bySet = new int[1 << MOST_PEOPLE];
+    private final Draws draws = new Draws();
     private Rule spareRule = new Rule();
 
     public VotedUnseen() {
@@ -843,7 +844,7 @@ public final class VotedUnseen {
             return NONE;
         }
         maybe.copyFrom(town);
-        Draws draws = new Draws(seed);
+        draws.state = seed;
         int chosen = 0;
         for (int i = 0; i < n; i++) {
             int kind = draws.drawOf(4);
@@ -851,7 +852,7 @@ public final class VotedUnseen {
                 maybe.passMonth(ways, ballot);
                 chosen += maybe.unseen == NONE ? 0 : 1;
             } else if (maybe.size > 0) {
-                drawAct(kind, draws);
+                drawAct(kind);
             }
         }
         told.clear();
@@ -860,7 +861,7 @@ public final class VotedUnseen {
         return chosen;
     }
 
-    private void drawAct(int kind, Draws draws) {
+    private void drawAct(int kind) {
         int one = draws.drawOf(maybe.size);
         if (kind == 2) {
             maybe.tell(one, draws.drawOf(maybe.size));
@@ -950,7 +951,7 @@ public final class VotedUnseen {
         return sign >= '0' && sign <= '9';
     }
 
-    /** THE TEXT. A call that reads it takes its length; the signs stay till new ones come. */
+    /** THE TEXT. A call that reads it takes its length; the signs stay till others come. */
     private static final class Text {
         final int[] signs = new int[LONGEST_TEXT];
         int length;
@@ -1059,15 +1060,15 @@ public final class VotedUnseen {
     /** A rule, read once into code in which an operator comes behind what it joins. */
     private static final class Rule {
         // Numbers stand in the code as they are, all other things as their sign below 0.
-        static final int NEGATE = -'~';
-        static final int END = -1;
+        private static final int NEGATE = -'~';
+        private static final int END = -1;
 
-        final int[] code = new int[LONGEST_RULE];
-        final int[] stack = new int[LONGEST_RULE];
-        int codeLength;
-        int[] signs = USUAL_RULE;
-        int limit;
-        int at;
+        private final int[] code = new int[LONGEST_RULE];
+        private final int[] stack = new int[LONGEST_RULE];
+        private int codeLength;
+        private int[] signs = USUAL_RULE;
+        private int limit;
+        private int at;
 
         /** Where the first sign is that can't stand, or FINE. */
         int read(int[] newSigns, int length) {
@@ -1078,18 +1079,18 @@ public final class VotedUnseen {
             return readExpression(0) && at == length ? FINE : at;
         }
 
-        int look() {
+        private int look() {
             return at < limit ? signs[at] : END;
         }
 
-        void put(int item) {
+        private void put(int item) {
             if (codeLength < LONGEST_RULE) {
                 code[codeLength] = item;
                 codeLength++;
             }
         }
 
-        boolean readExpression(int depth) {
+        private boolean readExpression(int depth) {
             if (!readSum(depth)) {
                 return false;
             }
@@ -1105,7 +1106,7 @@ public final class VotedUnseen {
             return true;
         }
 
-        boolean readSum(int depth) {
+        private boolean readSum(int depth) {
             if (!readProduct(depth)) {
                 return false;
             }
@@ -1123,7 +1124,7 @@ public final class VotedUnseen {
             return true;
         }
 
-        boolean readProduct(int depth) {
+        private boolean readProduct(int depth) {
             if (!readNegated(depth)) {
                 return false;
             }
@@ -1141,7 +1142,7 @@ public final class VotedUnseen {
             return true;
         }
 
-        boolean readNegated(int depth) {
+        private boolean readNegated(int depth) {
             boolean odd = false;
             for (int i = 0; i < LONGEST_RULE && look() == '-'; i++) {
                 odd = !odd;
@@ -1156,7 +1157,7 @@ public final class VotedUnseen {
             return true;
         }
 
-        boolean readThing(int depth) {
+        private boolean readThing(int depth) {
             int sign = look();
             if (sign == '(') {
                 return readInside(depth + 1);
@@ -1173,7 +1174,7 @@ public final class VotedUnseen {
             return true;
         }
 
-        boolean readInside(int depth) {
+        private boolean readInside(int depth) {
             if (depth > DEEPEST) {
                 return false;
             }
@@ -1185,7 +1186,7 @@ public final class VotedUnseen {
             return true;
         }
 
-        void readNumber() {
+        private void readNumber() {
             int number = 0;
             for (int i = 0; i < 3 && isDigit(look()); i++) {
                 number = number * 10 + look() - '0';
@@ -1194,7 +1195,7 @@ public final class VotedUnseen {
             put(number);
         }
 
-        static boolean isThing(int sign) {
+        private static boolean isThing(int sign) {
             return sign == 'l' || sign == 't' || sign == 's' || sign == 'b' || sign == 'd' || sign == 'm';
         }
 
@@ -1218,7 +1219,7 @@ public final class VotedUnseen {
             return stack[0];
         }
 
-        static int thing(int sign, Town town, Ways ways, int voter, int other) {
+        private static int thing(int sign, Town town, Ways ways, int voter, int other) {
             int place = voter * MOST_PEOPLE + other;
             switch (sign) {
                 case 'l':
@@ -1236,7 +1237,7 @@ public final class VotedUnseen {
             }
         }
 
-        static int join(int sign, int left, int right) {
+        private static int join(int sign, int left, int right) {
             switch (sign) {
                 case '+':
                     return left + right;
@@ -1299,11 +1300,11 @@ public final class VotedUnseen {
         }
 
         int here() {
-            return everybody() & ~away;
+            return (1 << size) - 1 & ~away;
         }
 
         boolean isHere(int person) {
-            return (here() >> person & 1) != 0;
+            return has(person) && (away >> person & 1) == 0;
         }
 
         /** Who can be voted for. */
@@ -1378,7 +1379,7 @@ public final class VotedUnseen {
         }
 
         /** To whom one comes by a step of the walk; NONE where nothing happens. */
-        int tableAt(int walker, int step) {
+        private int tableAt(int walker, int step) {
             if (size == 0) {
                 return NONE;
             }
@@ -1469,7 +1470,7 @@ public final class VotedUnseen {
             month++;
         }
 
-        void goAbout(Ways ways) {
+        private void goAbout(Ways ways) {
             for (int i = 0; i < ways.walkLength; i++) {
                 int table = tableAt(unseen, ways.walk[i]);
                 if (table != NONE) {
@@ -1482,7 +1483,7 @@ public final class VotedUnseen {
             }
         }
 
-        void bake() {
+        private void bake() {
             for (int person = 0; person < size; person++) {
                 if (isHere(person) && person != unseen) {
                     bread[person] = Math.min(MOST_BREAD, bread[person] + 1);
@@ -1490,7 +1491,7 @@ public final class VotedUnseen {
             }
         }
 
-        void raiseDebts() {
+        private void raiseDebts() {
             for (int one = 0; one < size; one++) {
                 for (int other = 0; other < size; other++) {
                     int debt = debts[one * MOST_PEOPLE + other];
@@ -1506,8 +1507,8 @@ public final class VotedUnseen {
     private static final class Ballot {
         final int[] choice = new int[MOST_PEOPLE];
         final int[] got = new int[MOST_PEOPLE];
-        final int[] wouldGet = new int[MOST_PEOPLE];
-        int size;
+        private final int[] wouldGet = new int[MOST_PEOPLE];
+        private int size;
         int chosen = NONE;
 
         void hold(Town town, Ways ways, Rule rule) {
@@ -1518,7 +1519,7 @@ public final class VotedUnseen {
             chosen = countVotes(got, 0, 0);
         }
 
-        static int choiceOf(int voter, Town town, Ways ways, Rule rule) {
+        private static int choiceOf(int voter, Town town, Ways ways, Rule rule) {
             int others = town.isHere(voter) ? town.electable() & ~(1 << voter) : 0;
             int best = NONE;
             int most = 0;
@@ -1548,7 +1549,7 @@ public final class VotedUnseen {
             return countVotes(wouldGet, turned, one);
         }
 
-        int countVotes(int[] votes, int turned, int one) {
+        private int countVotes(int[] votes, int turned, int one) {
             for (int person = 0; person < MOST_PEOPLE; person++) {
                 votes[person] = 0;
             }
@@ -1573,10 +1574,10 @@ public final class VotedUnseen {
     /** The towns as they were ahead of the latest acts, in a ring. */
     private static final class Past {
         // One place more than are kept, so that preparing never writes over one of them.
-        static final int PLACES = MOST_UNDONE + 1;
+        private static final int PLACES = MOST_UNDONE + 1;
 
-        final Town[] towns = new Town[PLACES];
-        int next;
+        private final Town[] towns = new Town[PLACES];
+        private int next;
         int held;
 
         Past() {
@@ -1611,8 +1612,8 @@ public final class VotedUnseen {
 
     /** What was noticed of somebody. */
     private static final class Notices {
-        final int[] kinds = new int[MOST_NOTICED];
-        final int[] values = new int[MOST_NOTICED];
+        private final int[] kinds = new int[MOST_NOTICED];
+        private final int[] values = new int[MOST_NOTICED];
         int length;
 
         int add(int kind, int value) {
@@ -1625,7 +1626,7 @@ public final class VotedUnseen {
             return length;
         }
 
-        static int greatest(int kind) {
+        private static int greatest(int kind) {
             switch (kind) {
                 case 0:
                 case 3:
@@ -1650,7 +1651,7 @@ public final class VotedUnseen {
             return true;
         }
 
-        boolean fitsOne(int i, Town town, Ballot ballot, int person) {
+        private boolean fitsOne(int i, Town town, Ballot ballot, int person) {
             int value = values[i];
             switch (kinds[i]) {
                 case 0:
@@ -1695,7 +1696,7 @@ public final class VotedUnseen {
             add(divisor == 0 ? 1 : lower / divisor);
         }
 
-        static long commonDivisor(long one, long other) {
+        private static long commonDivisor(long one, long other) {
             long greater = one;
             long lesser = other;
             for (int i = 0; i < 200 && lesser != 0; i++) {
@@ -1710,10 +1711,6 @@ public final class VotedUnseen {
     /** Draws by a seed. */
     private static final class Draws {
         int state;
-
-        Draws(int seed) {
-            state = seed;
-        }
 
         int drawOf(int n) {
             state = state * 1103515245 + 12345;
