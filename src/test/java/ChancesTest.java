@@ -219,5 +219,15 @@ final class ChancesTest {
         x.noticed(0, 7);
         Due.is("none fits", x.ask(), -2);
         Due.row("none fits changes no row", x, 1);
+        VotedUnseen open = Due.town(FOUR + ";" + FOUR);
+        Due.is("seven at most", open.ask(), 0);
+        Due.row("seven at most", open, 7);
+        for (int one = 0; one < 8; one++) {
+            for (int other = 0; other < 8; other++) {
+                open.tells(one, other);
+            }
+        }
+        Due.is("all know all", open.ask(), 0);
+        Due.row("all know all", open, 8);
     }
 }

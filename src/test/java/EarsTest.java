@@ -168,5 +168,12 @@ final class EarsTest {
         Due.row("all, the other way", x, 2, 1, 3, 0);
         x.goes(2);
         Due.is("away ones owe too", x.chain(), 4);
+        VotedUnseen round = Due.town(FOUR);
+        round.owes(0, 1, 1);
+        round.owes(1, 0, 1);
+        round.owes(1, 2, 1);
+        round.owes(2, 0, 1);
+        Due.is("nobody twice", round.chain(), 3);
+        Due.row("nobody twice", round, 0, 1, 2);
     }
 }

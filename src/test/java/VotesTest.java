@@ -12,6 +12,7 @@ final class VotesTest {
         when();
         learns();
         without();
+        farthest();
         swings();
         holds();
         duels();
@@ -107,6 +108,26 @@ final class VotesTest {
         Due.is("a walk to itself", far.learns(0), -2);
     }
 
+    /** 2 is not liked till the debts to it, which grow by one a month, are above a number. */
+    private static void farthest() {
+        VotedUnseen x = Due.town("090000000;900000000;900000000");
+        Due.walk(x, "12");
+        x.owes(0, 2, 1);
+        x.owes(1, 2, 1);
+        Due.rule(x, "l+(d>98)*50");
+        Due.is("in 99", x.when(2), 99);
+        Due.row("in 99", x, 3);
+        Due.is("knows all in 99", x.learns(2), 99);
+        Due.row("knows all in 99", x, 1);
+        Due.is("ahead 98", x.ahead(98) == 2, false);
+        Due.is("ahead 99", x.ahead(99), 2);
+        Due.rule(x, "l+(d>99)*50");
+        Due.is("in 100", x.when(2), -2);
+        Due.is("knows all in 100", x.learns(2), -2);
+        x.months(1);
+        Due.is("a month later", x.when(2), 99);
+    }
+
     private static void without() {
         VotedUnseen x = Due.town(FOUR);
         for (int one : NO_SUCH) {
@@ -154,6 +175,10 @@ final class VotesTest {
         Due.is("of equal ones the first", two.swings(0), 0);
         VotedUnseen alone = Due.town("000000000");
         Due.is("alone", alone.swings(0), -2);
+        // 0 for 1, 1 for 0, 2 for 0: both others must turn to 2.
+        VotedUnseen all = Due.town("090000000;900000000;900000000");
+        Due.is("all others", all.swings(2), 2);
+        Due.row("all others", all, 3);
     }
 
     private static void holds() {
