@@ -1,4 +1,5 @@
 import java.util.Arrays;
+import java.util.List;
 import java.util.NoSuchElementException;
 
 /** Counts answers that are not the ones that are due. */
@@ -55,6 +56,18 @@ final class Due {
         } catch (NoSuchElementException e) {
             right++;
         }
+    }
+
+    /** Two tellings of all are alike; else the first line that is not. */
+    static void alike(String what, List<String> got, List<String> want) {
+        for (int i = 0; i < got.size() && i < want.size(); i++) {
+            if (!got.get(i).equals(want.get(i))) {
+                wrong++;
+                System.out.println(what + " tells " + got.get(i) + ", due is " + want.get(i));
+                return;
+            }
+        }
+        is(what + ", how much is told", got.size(), want.size());
     }
 
     /** Makes THE TEXT. */
