@@ -78,12 +78,19 @@ final class Edge {
         Due.alike(what + " is refused", everything(x, true), everything(twin, true));
     }
 
-    /** The call answers so, tells such a ROW and changes nothing else. */
+    /** The call answers so, tells such a ROW, whatever was told ahead of it, and changes nothing else. */
     static void question(String what, Make make, On call, long want, long... row) {
         VotedUnseen x = make.make();
         Due.is(what, call.on(x), want);
         Due.row(what, x, row);
         Due.alike(what + " is a question", everything(x, false), everything(make.make(), false));
+        VotedUnseen told = make.make();
+        told.ahead(99);
+        Due.is(what + " behind a ROW", call.on(told), want);
+        Due.row(what + " behind a ROW", told, row);
+        told.vote();
+        Due.is(what + " behind another ROW", call.on(told), want);
+        Due.row(what + " behind another ROW", told, row);
     }
 
     /** The call throws what is promised and changes nothing. */

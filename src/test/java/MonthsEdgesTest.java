@@ -397,6 +397,14 @@ final class MonthsEdgesTest {
                 return left;
             }, before, 2, 1, 0, 0);
         }
+        VotedUnseen paid = withDebt(7);
+        Due.is("an act that answers 0", paid.owes(0, 1, -7), 0);
+        Due.is("was done", paid.undo(), 1);
+        Due.is("and is undone", paid.between(0, 1, 2), 7);
+        VotedUnseen gone = Due.town(Edge.LINE);
+        Due.is("the last goes", gone.goes(0), 0);
+        Due.is("the last is undone", gone.undo(), 0);
+        Due.is("the last is HERE", gone.count(3), 1);
         Edge.On[] refused = {x -> x.months(61), x -> x.tells(0, 0), x -> x.gives(0, 1, 99), x -> x.owes(0, 1, -1),
             x -> x.goes(9), VotedUnseen::vote, x -> x.ahead(3), x -> x.years(1, 5), x -> x.sheet(2, 4, 5, 0),
             x -> x.keep(0) ? 1 : 0, x -> x.noticed(0, 0), x -> Due.year(x, ""), x -> Due.year(x, "a9"),

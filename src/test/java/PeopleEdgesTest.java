@@ -275,6 +275,7 @@ final class PeopleEdgesTest {
         Due.is("most DEBTS of one", x.person(0, 5), 6993);
         Due.is("most DEBTS to one", x.person(0, 6), 6993);
         Due.is("DEBTS of the last", x.person(7, 5), 999);
+        Due.is("DEBTS to the last, of the first", x.person(7, 6), 999);
         Due.is("BREAD of the last", x.person(7, 0), 0);
         Due.is("SECRETS of the last", x.person(7, 1), 128);
         Due.is("vote of the last", x.person(7, 4), 0);
