@@ -108,6 +108,12 @@ final class PeopleEdgesTest {
             Due.is("the same end again", x.end(n), true);
             Due.is("an end behind it", x.end(n + 1), false);
         }
+        VotedUnseen cut = Due.town(Edge.lines(8));
+        cut.sign(0x31323334);
+        cut.end(1);
+        cut.sign(0x37373737);
+        Due.is("its first n signs alone, then others", cut.walk(), 5);
+        Due.is("1 and 7 are left", cut.hears(0), 131);
         int[] outside = {-1, 5, 80, LEAST, MOST};
         for (int n : outside) {
             Edge.refused("end at " + n + " of 4", () -> withSigns(4), x -> x.end(n) ? 1 : 0, 0);
@@ -142,7 +148,8 @@ final class PeopleEdgesTest {
             String ahead = text.substring(0, at);
             String behind = text.substring(at + 1);
             String other = text.charAt(at) == ';' ? "0" : ";";
-            Edge.refusedText("at " + at + " " + other, Edge::busy, ahead + other + behind, VotedUnseen::people, -1 - at);
+            Edge.refusedText("at " + at + " " + other, Edge::busy, ahead + other + behind, VotedUnseen::people,
+                -1 - at);
             for (String sign : wrong) {
                 Due.is("at " + at + " another sign", Due.people(new VotedUnseen(), ahead + sign + behind), -1 - at);
             }
