@@ -10,6 +10,7 @@ final class ChancesEdgesTest {
         pairsOfAll();
         pairsOfAsGoodOnes();
         pairsOfThoseWhoAreHere();
+        pairsBehindOtherQuestions();
         powerOutside();
         powerOfHalf();
         powerOfNoBread();
@@ -107,6 +108,28 @@ final class ChancesEdgesTest {
             x.months(1);
             return x;
         }, VotedUnseen::pairs, 10, 0, 1);
+    }
+
+    /** Whatever was asked ahead of it. */
+    private static void pairsBehindOtherQuestions() {
+        Edge.Make make = () -> {
+            VotedUnseen x = Due.town("030000000;006000000;000300000;000000000");
+            x.owes(0, 1, 1);
+            x.owes(1, 2, 1);
+            return x;
+        };
+        Edge.question("pairs behind a chain", make, x -> {
+            x.chain();
+            return x.pairs();
+        }, 6, 1, 2);
+        Edge.question("a chain behind pairs", make, x -> {
+            x.pairs();
+            return x.chain();
+        }, 3, 0, 1, 2);
+        Edge.question("pairs of one alone behind a chain", () -> Due.town("900000000"), x -> {
+            x.chain();
+            return x.pairs();
+        }, 0);
     }
 
     private static void powerOutside() {
@@ -327,6 +350,15 @@ final class ChancesEdgesTest {
     private static void askOfEqualOnes() {
         Edge.question("one alone: the first", () -> town(1), VotedUnseen::ask, 0, 1);
         Edge.question("of equal ones the first", () -> town(8), VotedUnseen::ask, 0, 7);
+        Edge.question("all know all: eight at most", () -> {
+            VotedUnseen x = town(8);
+            for (int one = 0; one < 8; one++) {
+                for (int other = 0; other < 8; other++) {
+                    x.tells(one, other);
+                }
+            }
+            return x;
+        }, VotedUnseen::ask, 0, 8);
         Edge.question("the one that halves", () -> {
             VotedUnseen x = town(8);
             x.tells(7, 0);

@@ -221,6 +221,12 @@ final class PeopleEdgesTest {
         Due.is("the eighth digit counts", x.hears(0), 131);
         Due.is("anew: the former digits are gone", Due.walk(x, "2"), 1);
         Due.is("anew", x.hears(0), 5);
+        x.months(1);
+        Due.is("anew in a MONTH", x.person(0, 1), 5);
+        VotedUnseen far = Due.town(Edge.lines(8));
+        Due.walk(far, "11111117");
+        far.months(1);
+        Due.is("eight digits in a MONTH", far.person(0, 1), 131);
         String[] ninth = {"1", "0", "x", "1111", "1".repeat(72)};
         for (String more : ninth) {
             Edge.refusedText("a ninth sign", Edge::busy, "12345671" + more, VotedUnseen::walk, -9);
@@ -258,6 +264,13 @@ final class PeopleEdgesTest {
         Due.is("by the other one after a law", x.between(0, 1, 1), 4);
         Due.is("an empty one", Due.rule(x, ""), 0);
         Due.is("as at first", x.between(0, 1, 1), 10);
+        // Nothing is left of a longer rule.
+        Due.rule(x, "-l");
+        Due.rule(x, "-l");
+        Due.rule(x, "l");
+        Due.is("a shorter one", x.between(0, 1, 1), 5);
+        Due.is("forty things and signs", Due.rule(x, "-l" + "+l".repeat(19)), 0);
+        Due.is("by all of them", x.between(0, 1, 1), 90);
     }
 
     private static void personOutside() {

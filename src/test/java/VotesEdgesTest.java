@@ -27,6 +27,7 @@ final class VotesEdgesTest {
         holdsThatCannotBe();
         duelsOfLikeGladness();
         duelsWonAllButOne();
+        duelsOfEight();
         duelsOfOneAtLeast();
         duelsOfWhoCanBeVotedFor();
         Due.finish();
@@ -239,6 +240,15 @@ final class VotesEdgesTest {
             Due.rule(x, "l");
             return x;
         }, VotedUnseen::duels, -2, 0, 1, 0);
+    }
+
+    private static void duelsOfEight() {
+        Edge.question("eight, none wins", () -> Due.town(Edge.lines(8)), VotedUnseen::duels, -2,
+            0, 0, 0, 0, 0, 0, 0, 0);
+        // All but 7 like 7: it wins each duel by six.
+        String all = "000000090;".repeat(7) + Edge.LINE;
+        Edge.question("eight, the last wins all", () -> Due.town(all), VotedUnseen::duels, 7,
+            0, 0, 0, 0, 0, 0, 0, 7);
     }
 
     private static void duelsOfOneAtLeast() {
